@@ -629,7 +629,7 @@ public final class OnlyBatteries {
         }
 
         long cellsOf(int ground) {
-            return isIn(ground, 0, GROUNDS - 1) ? grounds[ground] : 0;
+            return ground >= 0 && ground < GROUNDS ? grounds[ground] : 0;
         }
 
         int groundAt(int cell) {
@@ -704,7 +704,7 @@ public final class OnlyBatteries {
         private void note(int from, long cells, int quarters) {
             for (int cell = 0; cell < CELLS && cells >>> cell != 0; cell++) {
                 int place = from * CELLS + cell;
-                if (hasBit(cells, cell) && place >= 0 && place < ways.length) {
+                if ((cells >>> cell & 1) != 0 && place >= 0 && place < ways.length) {
                     ways[place] = quarters;
                 }
             }
