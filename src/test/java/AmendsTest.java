@@ -66,6 +66,10 @@ public final class AmendsTest {
     }
 
     private static void most() {
+        OnlyBatteries first = wood(2);
+        first.list(0, 1);
+        first.list(0, 2);
+        due("the first theft", first.most(), 0);
         OnlyBatteries x = wood(4);
         due("none", x.most(), -9);
         x.list(1, 10);
@@ -119,6 +123,9 @@ public final class AmendsTest {
         due("purse 0", x.amends(0, 0), 0);
         due("no loss", x.amends(99999, 0), 0);
         due("no cabin", new OnlyBatteries().amends(5, 0), -1);
+        x.list(0, 1);
+        due("a loss of one, purse 0", x.amends(0, 0), 0);
+        due("a loss of one, purse 1", x.amends(1, 0), 1);
     }
 
     private static void dueShares(String name, OnlyBatteries x, int purse, int... shares) {

@@ -7,6 +7,7 @@ public final class KindTest {
         wrongKinds();
         traces();
         images();
+        slots();
         imagesHoldNothingElse();
         wrongImages();
         counts();
@@ -94,10 +95,50 @@ public final class KindTest {
         due("back once more", x.back(0), 3);
         due("list", x.list(0, 41), 2);
         due("grew", x.grew(0), 1);
+        due("back 1 once more", x.back(1), 4);
+        due("grew 0 as kept", x.grew(0), 10);
+        x.tune(4, 30);
+        due("loss 0 as kept", x.loss(0), 40);
+        due("loss 1 as kept", x.loss(1), 0);
+        x.tune(4, 5);
+        x.back(0);
+        x.list(0, 41);
         due("kept anew", x.keep(0), 3);
         x.list(0, 42);
         due("back to the new one", x.back(0), 3);
         due("grew as kept", x.grew(0), 1);
+    }
+
+    /** What was in a theft's place ahead of it is not its own. */
+    private static void slots() {
+        OnlyBatteries x = Check.of("cabin 1;cabin 2;");
+        x.theft(0, 0, 1, 0, 1, 0);
+        x.keep(0);
+        x.theft(1, 0, 1, 0, 1, 0);
+        x.list(1, 77);
+        x.list(1, 99);
+        x.keep(1);
+        x.back(0);
+        x.theft(1, 3, 4, 0, 1, 0);
+        due("no loss", x.loss(1), 0);
+        due("no growth", x.grew(1), 0);
+        due("none grew", x.most(), -9);
+        due("no lists", x.count(4), 0);
+        x.list(1, 5);
+        due("loss", x.loss(1), 5);
+        x.list(1, 6);
+        due("growth", x.grew(1), 1);
+        x.back(1);
+        due("loss as kept", x.loss(1), 77);
+        due("growth as kept", x.grew(1), 22);
+        Check.type(x, "cabin 3;");
+        x.year();
+        x.theft(0, 0, 1, 0, 1, 0);
+        x.theft(0, 0, 1, 0, 1, 0);
+        due("no lists in a new year", x.count(4), 0);
+        due("first list in a new year", x.list(1, 8), 1);
+        due("no growth in a new year", x.grew(1), 0);
+        due("loss in a new year", x.loss(0), 8);
     }
 
     private static void imagesHoldNothingElse() {

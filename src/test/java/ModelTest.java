@@ -1,7 +1,7 @@
 /** Long runs of calls, drawn by a fixed row of numbers, on the class and on the model: all answers must be alike. */
 public final class ModelTest {
     private static final Check CHECK = new Check("ModelTest");
-    private static final int RUNS = 300, CALLS = 400;
+    private static final int RUNS = 300, CALLS = 360;
     private static final String[] WORDS = {"path", "swamp", "lake", "cabin", "home", "moon", "snow"};
 
     private long state;
@@ -38,7 +38,9 @@ public final class ModelTest {
         return kind == 3 ? least : kind == 4 ? most : least + draw(most - least + 1);
     }
 
+    /** Each is a call: an object is good for 512. */
     private void due(String call, long got, long want) {
+        length++;
         CHECK.due(past + ", then " + call, got, want);
     }
 
@@ -49,7 +51,6 @@ public final class ModelTest {
         past = "run " + run;
         readYear(false);
         while (length < CALLS) {
-            length++;
             int kind = draw(100);
             if (kind == 0) {
                 readYear(draw(2) == 0);
@@ -92,16 +93,13 @@ public final class ModelTest {
         past = past + ", year '" + text + "'";
         int want = m.year();
         due("year", x.year(), want);
-        length++;
         if (want < 0) {
             due("count 3", x.count(3), m.count(3));
             due("clear", x.clear(), m.clear());
-            length += 2;
         }
         for (int cell = 0; cell < 48; cell++) {
             due("ground " + cell, x.ground(cell), m.ground(cell));
         }
-        length += 48;
     }
 
     private void addItem(StringBuilder text) {
@@ -132,19 +130,18 @@ public final class ModelTest {
 
     private void type(String text) {
         for (int i = 0; i < text.length(); ) {
-            int n = Math.min(text.length() - i, 1 + draw(8));
+            int n = Math.min(text.length() - i, 4 + draw(5));
             long v = draw(2) == 0 ? -1 : 0;
             for (int j = 0; j < n; j++) {
                 v = v << 8 | text.charAt(i + j) & 255;
             }
             due("type", x.type(v, n), m.type(v, n));
-            length++;
             i += n;
         }
     }
 
     private void change() {
-        switch (draw(20)) {
+        switch (draw(24)) {
             case 0: {
                 int what = near(0, 4);
                 int[] least = {1, 0, 1, 1, 0};
@@ -154,13 +151,13 @@ public final class ModelTest {
                 due("tune", x.tune(what, v), m.tune(what, v));
                 break;
             }
-            case 1: {
+            case 1: case 20: case 21: {
                 int image = near(0, 1);
                 past += ", keep " + image;
                 due("keep", x.keep(image), m.keep(image));
                 break;
             }
-            case 2: {
+            case 2: case 22: case 23: {
                 int image = near(0, 1);
                 past += ", back " + image;
                 due("back", x.back(image), m.back(image));
@@ -207,7 +204,6 @@ public final class ModelTest {
         due("count " + what, x.count(what), m.count(what));
         due("weigh " + what + " " + t, x.weigh(what, t), m.weigh(what, t));
         due("trace", x.trace(), m.trace());
-        length += 6;
     }
 
     private void askWalks() {
@@ -220,7 +216,6 @@ public final class ModelTest {
         due("trip " + from + " " + k + " " + load, x.trip(from, k, load), m.trip(from, k, load));
         due("camp " + from, x.camp(from), m.camp(from));
         due("camps " + what, x.camps(what), m.camps(what));
-        length += 3;
     }
 
     private void askTakers() {
@@ -236,7 +231,6 @@ public final class ModelTest {
         due("stores " + stores + "-1", x.stores(cell, d, e, f, -1), m.stores(cell, d, e, f, -1));
         due("stores " + stores + k, x.stores(cell, d, e, f, k), m.stores(cell, d, e, f, k));
         due("starves " + d + " " + e + " " + f, x.starves(d, e, f), m.starves(d, e, f));
-        length += 4;
     }
 
     private void askCoins() {
@@ -255,6 +249,5 @@ public final class ModelTest {
         due("most", x.most(), m.most());
         due("loss " + k, x.loss(k), m.loss(k));
         due("amends " + purse + " " + k, x.amends(purse, k), m.amends(purse, k));
-        length += 5;
     }
 }

@@ -158,6 +158,9 @@ public final class StoreTest {
         due("beyond the year", x.starves(59, 59, 30), 60);
         x.tune(2, 9);
         due("eats 9", x.starves(10, 59, 30), 13);
+        x.tune(2, 1);
+        due("eats 1", x.starves(10, 59, 30), 40);
+        x.tune(2, 9);
         due("d -1", x.starves(-1, 5, 3), -1);
         due("d 60", x.starves(60, 60, 3), -1);
         due("e 60", x.starves(0, 60, 3), -1);

@@ -140,11 +140,25 @@ public final class TakerTest {
         for (int t = 0; t < 12; t++) {
             due("row " + t, y.alone(t), 11 - t);
         }
+        OnlyBatteries w = wood();
+        for (int t = 0; t < 12; t++) {
+            add(w, 0, 0, 30);
+        }
+        for (int t = 0; t < 12; t++) {
+            due("as they come " + t, w.alone(t), t);
+        }
         OnlyBatteries z = wood();
         for (int t = 0; t < 12; t++) {
             add(z, 0, 0, 6);
         }
         due("twelve in six", z.takers(), 2);
+        OnlyBatteries v = wood();
+        add(v, 0, 0, 12);
+        for (int t = 1; t < 12; t++) {
+            add(v, 0, t - 1, t);
+        }
+        due("the first makes room for eleven", v.alone(0), 11);
+        due("the last stays", v.alone(11), 10);
         OnlyBatteries u = wood();
         for (int t = 0; t < 12; t++) {
             add(u, 0, 0, t < 11 ? 5 : 59);

@@ -6,6 +6,7 @@ public final class WalkTest {
         walks();
         walls();
         roundAbout();
+        longWays();
         trips();
         camps();
         apart();
@@ -54,7 +55,32 @@ public final class WalkTest {
         due("through a swamp's side", x.walk(0, 2), 6);
     }
 
+    private static void longWays() {
+        StringBuilder text = new StringBuilder("cabin 0;");
+        for (int column = 0; column < 7; column++) {
+            text.append("lake ").append(8 + column).append(";lake ").append(25 + column).append(";lake ")
+                    .append(40 + column).append(';');
+        }
+        OnlyBatteries woods = Check.of(text.toString());
+        due("round the lakes", woods.walk(0, 39), 2 * 25);
+        due("to the last", woods.walk(0, 47), 2 * 26);
+        for (int column = 1; column < 8; column++) {
+            text.append("swamp ").append(column).append(";swamp ").append(16 + column).append(';');
+        }
+        text.append("swamp 16;swamp 15;swamp 24;swamp 32;swamp 33;swamp 34;");
+        OnlyBatteries swamps = Check.of(text.toString());
+        due("through swamps", swamps.walk(0, 34), 3 * 20);
+        due("and back", swamps.walk(34, 0), 3 * 19 + 2);
+        due("and on through wood", swamps.walk(0, 47), 3 * 20 + 2 * 6);
+        due("a trip so far", swamps.trip(34, 0, 30), 59 + 150);
+    }
+
     private static void trips() {
+        OnlyBatteries w = Check.of("path 0;path 1;cabin 1;");
+        due("21 twentieths, rounded up", w.trip(0, 0, 1), 1 + 2);
+        due("39 twentieths", w.trip(0, 0, 19), 1 + 2);
+        due("40 twentieths", w.trip(0, 0, 20), 1 + 2);
+        due("41 twentieths", w.trip(0, 0, 21), 1 + 3);
         OnlyBatteries x = Check.of("path 0;cabin 3;swamp 5;cabin 5;lake 47;");
         due("load 1", x.trip(0, 0, 1), 6 + 6);
         due("load 20", x.trip(0, 0, 20), 6 + 10);
@@ -101,6 +127,8 @@ public final class WalkTest {
     private static void camps() {
         dueCamps("all wood", new OnlyBatteries(), "", -9, -9, 0);
         dueCamps("a lake", Check.of("lake 10;"), "2 9 11 18", 2, 0, 4);
+        dueCamps("the first cell", Check.of("lake 1;"), "0 2 9", 0, 0, 3);
+        dueCamps("the last cell", Check.of("lake 39;"), "31 38 47", 31, 0, 3);
         dueCamps("a swamp is one only beside another", Check.of("swamp 10;"), "2 9 11 18", 2, 0, 4);
         dueCamps("two swamps", Check.of("swamp 10;swamp 11;"), "2 3 9 10 11 12 18 19", 2, 0, 1);
         dueCamps("a lake at a row's end", Check.of("lake 15;"), "7 14 23", 7, 0, 3);
