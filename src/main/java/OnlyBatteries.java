@@ -113,13 +113,11 @@ public final class OnlyBatteries {
             return BAD;
         }
         long nights = facts.nightsOf(theft);
-        if (what == 0) {
-            return Long.bitCount(nights);
+        switch (what) {
+            case 0: return Long.bitCount(nights);
+            case 1: return firstOf(nights);
+            default: return lastOf(nights);
         }
-        if (nights == 0) {
-            return NONE;
-        }
-        return what == 1 ? Long.numberOfTrailingZeros(nights) : 63 - Long.numberOfLeadingZeros(nights);
     }
 
     // ---- walks, camps
@@ -360,6 +358,24 @@ public final class OnlyBatteries {
     /** The bits first .. last, both of them nights. */
     private static long span(int first, int last) {
         return (1L << (last - first + 1)) - 1 << first;
+    }
+
+    private static int firstOf(long nights) {
+        for (int night = 0; night < NIGHTS; night++) {
+            if (hasBit(nights, night)) {
+                return night;
+            }
+        }
+        return NONE;
+    }
+
+    private static int lastOf(long nights) {
+        for (int night = NIGHTS - 1; night >= 0; night--) {
+            if (hasBit(nights, night)) {
+                return night;
+            }
+        }
+        return NONE;
     }
 
     /** The cells that lie beside one of these; rows of eight bits, so that nothing goes round a row's end. */
@@ -946,7 +962,7 @@ public final class OnlyBatteries {
         }
 
         private long heapIn(long among) {
-            long heap = Long.lowestOneBit(among);
+            long heap = among & -among;
             for (int i = 0; i < CELLS; i++) {
                 heap |= aside(heap) & among;
             }
@@ -999,13 +1015,13 @@ public final class OnlyBatteries {
             if (!isEnough(1)) {
                 return STATE;
             }
-            if (!isIn(t, 0, THEFTS - 1) || choices[t] == 0) {
+            if (!isIn(t, 0, THEFTS - 1)) {
                 return NONE;
             }
             for (int earlier = 0; earlier <= t && earlier < THEFTS; earlier++) {
                 narrow(earlier);
             }
-            return Long.numberOfTrailingZeros(choices[t]);
+            return firstOf(choices[t]);
         }
 
         /** A theft that is left out has no choice. */

@@ -3,7 +3,6 @@ import java.lang.reflect.Constructor;
 import java.lang.reflect.Field;
 import java.lang.reflect.Method;
 import java.lang.reflect.Modifier;
-import java.util.ArrayList;
 import java.util.Arrays;
 import java.util.List;
 import java.util.TreeSet;
@@ -56,7 +55,7 @@ public final class FaceTest {
     }
 
     private static void members() {
-        List<String> constants = new ArrayList<>();
+        TreeSet<String> constants = new TreeSet<>();
         for (Field field : OnlyBatteries.class.getDeclaredFields()) {
             int how = field.getModifiers();
             holds(field + " is private, or a constant", Modifier.isPrivate(how)
@@ -66,7 +65,7 @@ public final class FaceTest {
                 constants.add(field.getName());
             }
         }
-        holds("the constants are " + constants, constants.equals(List.of("BAD", "STATE", "FULL", "NONE", "NO")));
+        holds("the constants are " + constants, constants.equals(new TreeSet<>(List.of("BAD", "STATE", "FULL", "NONE", "NO"))));
         for (Method method : OnlyBatteries.class.getDeclaredMethods()) {
             int how = method.getModifiers();
             holds(method + " is private or public", Modifier.isPrivate(how) || Modifier.isPublic(how));
