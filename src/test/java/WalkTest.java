@@ -39,6 +39,9 @@ public final class WalkTest {
     }
 
     private static void walls() {
+        OnlyBatteries y = Check.of("lake 0;lake 47;");
+        due("the first cell is a lake", y.walk(0, 0), -9);
+        due("the last cell is a lake", y.walk(47, 47), -9);
         OnlyBatteries x = Check.of("lake 1;lake 8;lake 9;lake 38;lake 46;lake 39;");
         due("shut in", x.walk(0, 2), -9);
         due("shut out", x.walk(2, 0), -9);

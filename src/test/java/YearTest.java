@@ -261,6 +261,8 @@ public final class YearTest {
         due("year", x.year(), 1);
         due("lake is gone", x.ground(3), 0);
         due("walk", x.walk(2, 4), 4);
+        due("walk where the lake was", x.walk(3, 3), 0);
+        due("no camp, for there is no water", x.camps(0), 0);
         due("cabins", x.count(0), 1);
         due("cabin", x.cabin(0), 10);
         for (int night = 0; night < 60; night++) {
@@ -312,6 +314,12 @@ public final class YearTest {
         for (int night = 0; night < 60; night++) {
             due("free 0 " + night, x.free(0, night), isIn(taken, night) ? 0 : 1);
             due("free 1 " + night, x.free(1, night), isIn(takenToo, night) ? 0 : 1);
+        }
+        OnlyBatteries y = Check.of("cabin 5;cabin 6;home 1 3 5;cabin 0;cabin 1;path 0;moon 0 1;");
+        for (int k = 0; k < 4; k++) {
+            due("at home, cabin " + k, y.free(k, 4), k == 1 ? 0 : 1);
+            due("moon, cabin " + k, y.free(k, 1), 0);
+            due("dark, cabin " + k, y.free(k, 2), 1);
         }
         due("night 60", x.free(0, 60), -1);
         due("night 64", x.free(0, 64), -1);
