@@ -376,8 +376,8 @@ public final class EdgeWoodTest {
         // to the cabin it is 4 from 11, 8 from 2 and 18, 12 from 9
         int[] tunes = {0, 3, 4, 5, 7, 8, 9, 12, 13, 20};
         String[] camps = {"2 9 11 18", "2 9 11 18", "2 9 11 18", "2 9 18", "2 9 18", "2 9 18", "9", "9", "", ""};
-        OnlyBatteries x = Check.of("lake 10;cabin 13;");
         for (int i = 0; i < tunes.length; i++) {
+            OnlyBatteries x = Check.of("lake 10;cabin 13;");
             x.tune(1, tunes[i]);
             dueCamps("promise 14: apart " + tunes[i], x, camps[i]);
         }
@@ -403,9 +403,9 @@ public final class EdgeWoodTest {
         // with a load of 20 the trip is 12 from 11, 24 from 2 and 18, 36 from 9
         int[] tunes = {1, 11, 12, 13, 23, 24, 25, 35, 36, 37, 99};
         String[] camps = {"", "", "11", "11", "11", "2 11 18", "2 11 18", "2 11 18", "2 9 11 18", "2 9 11 18", "2 9 11 18"};
-        OnlyBatteries x = Check.of("lake 10;cabin 13;");
-        x.theft(0, 0, 1, 0, 20, 0);
         for (int i = 0; i < tunes.length; i++) {
+            OnlyBatteries x = Check.of("lake 10;cabin 13;");
+            x.theft(0, 0, 1, 0, 20, 0);
             x.tune(0, tunes[i]);
             dueCamps("promise 14: long " + tunes[i], x, camps[i]);
         }
