@@ -13,6 +13,7 @@ public final class EdgeKindTest {
         promise29Ends();
         promise29State();
         promise29All();
+        promise29OtherThefts();
         promise29NothingElse();
         promise30Ends();
         promise30EmptyAndFull();
@@ -187,6 +188,42 @@ public final class EdgeKindTest {
         x.back(0);
         due("promise 29: the 5th behind back(0)", x.list(11, 1), 5);
         due("promise 29: the 13th theft behind back", x.theft(0, 0, 1, 0, 1, 0), -3);
+    }
+
+    /** Other thefts came in their places; what an image has is brought back whole, and what comes anew is new. */
+    private static void promise29OtherThefts() {
+        OnlyBatteries x = Check.of(Edge.cabins(8));
+        due("promise 28: keep(0) of none", x.keep(0), 0);
+        for (int t = 0; t < 12; t++) {
+            x.theft(t % 8, t, t + 2, t, t + 1, t % 8);
+            x.list(t, 100 + t);
+            x.list(t, 200);
+        }
+        due("promise 28: keep(1) of twelve", x.keep(1), 12);
+        due("promise 29: back to none", x.back(0), 0);
+        due("promise 24: none grew", x.most(), -9);
+        for (int t = 0; t < 12; t++) {
+            due("promise 9: another theft " + t, x.theft(7 - t % 8, 40 + t, 59, 63 - t, 30 - t, 0), t);
+            due("promise 23: it has no lists", x.grew(t), 0);
+        }
+        due("promise 30: no lists", x.count(4), 0);
+        due("promise 24: none grew of the others", x.most(), -9);
+        for (int k = 0; k < 8; k++) {
+            due("promise 25: no loss at " + k, x.loss(k), 0);
+        }
+        due("promise 22: the first list of the others", x.list(0, 7), 1);
+        due("promise 23: with one", x.grew(0), 0);
+        due("promise 29: back to twelve", x.back(1), 12);
+        for (int t = 0; t < 12; t++) {
+            int[] want = {t % 8, t, t + 2, t, t + 1, t % 8};
+            for (int what = 0; what < 6; what++) {
+                due("promise 29: about(" + t + ", " + what + ") behind others", x.about(t, what), want[what]);
+            }
+            due("promise 29: grew(" + t + ") behind others", x.grew(t), 100 - t);
+        }
+        due("promise 29: lists behind others", x.count(4), 24);
+        x.theft(0, 0, 1, 0, 1, 0);
+        due("promise 29: none came beyond twelve", x.count(1), 12);
     }
 
     private static void promise29NothingElse() {

@@ -27,6 +27,7 @@ public final class EdgeTextTest {
         promise4EndsTooEarly();
         promise4BlanksNeeded();
         promise4BlanksAnywhere();
+        promise4SignsAtOnce();
         promise4Cells();
         promise4Days();
         promise4Homes();
@@ -291,6 +292,36 @@ public final class EdgeTextTest {
         }
     }
 
+    /** Each byte at once behind a word, a number, an item, and ahead of one. */
+    private static void promise4SignsAtOnce() {
+        for (int sign = 0; sign < 256; sign++) {
+            char c = (char) sign;
+            boolean letter = c >= 'a' && c <= 'z';
+            boolean digit = c >= '0' && c <= '9';
+            String behindWord = "path" + c + "3;";
+            if (c == ' ' || c >= '1' && c <= '4') {
+                items("byte " + sign + " behind a word", behindWord, 1);
+            } else {
+                fault("byte " + sign + " behind a word", behindWord, letter ? 0 : 4);
+            }
+            String behindNumber = "path 3" + c + ";";
+            if (c == ' ' || digit) {
+                items("byte " + sign + " behind a number", behindNumber, 1);
+            } else {
+                fault("byte " + sign + " behind a number", behindNumber, c == ';' ? 7 : 6);
+            }
+            String behindItem = "path 3;" + c;
+            if (c == ' ') {
+                items("byte " + sign + " behind an item", behindItem, 1);
+            } else {
+                fault("byte " + sign + " behind an item", behindItem, 7);
+            }
+            fault("byte " + sign + " ahead of letters and ;", c + "a;", c == ' ' ? 1 : 0);
+        }
+        fault("a letter at once behind each letter of a word", "pathz 3;", 0);
+        fault("a letter at once ahead of a word", "zpath 3;", 0);
+    }
+
     // ---- numbers
 
     private static void promise4Cells() {
@@ -429,6 +460,11 @@ public final class EdgeTextTest {
             for (int night = 0; night < 60; night++) {
                 due("promise 4: none at home, none bright, '" + anew + "'", x.free(0, night) + x.free(1, night), 2);
             }
+            due("promise 9: the first theft again, '" + anew + "'", x.theft(0, 3, 5, 0, 1, 0), 0);
+            due("promise 30: it has no lists, '" + anew + "'", x.count(4), 0);
+            due("promise 25: and no loss, '" + anew + "'", x.loss(0), 0);
+            due("promise 22: its first list, '" + anew + "'", x.list(0, 9), 1);
+            due("promise 23: with one, '" + anew + "'", x.grew(0), 0);
         }
     }
 }

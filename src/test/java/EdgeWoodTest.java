@@ -22,6 +22,7 @@ public final class EdgeWoodTest {
         promise12Lakes();
         promise12RowsEnds();
         promise12FarthestWays();
+        promise12NewYear();
         promise13Ends();
         promise13RoundedUp();
         promise13NoWay();
@@ -289,6 +290,29 @@ public final class EdgeWoodTest {
         return text + "cabin39;";
     }
 
+    /** What was walked in an old year does not count in a new one. */
+    private static void promise12NewYear() {
+        OnlyBatteries x = Check.of("lake 1;swamp 8;cabin 9;");
+        due("promise 12: through the swamp", x.walk(0, 16), 5);
+        due("promise 12: into a lake", x.walk(0, 1), -9);
+        Check.type(x, "path 1;path 8;cabin 16;cabin 99;");
+        due("promise 4: a fault", x.year(), -10 - 29);
+        due("promise 12: as it was behind a fault", x.walk(0, 16), 5);
+        due("promise 12: a lake still behind a fault", x.walk(0, 1), -9);
+        x.clear();
+        Check.type(x, "path 1;path 8;lake 2;cabin 16;");
+        due("promise 4: a new year", x.year(), 4);
+        due("promise 12: by the path now", x.walk(0, 16), 3);
+        due("promise 12: no lake now", x.walk(0, 1), 1);
+        due("promise 12: a lake now", x.walk(0, 2), -9);
+        due("promise 13: a trip in the new year", x.trip(0, 0, 20), 3 + 6);
+        due("promise 14: a camp in the new year", x.camp(1), 1);
+        due("promise 14: no camp any more", x.camp(0), 0);
+        x.year();
+        due("promise 12: all is wood again", x.walk(0, 16), 4);
+        due("promise 12: all is wood again, where the lake was", x.walk(0, 2), 4);
+    }
+
     // ---- trips
 
     private static void promise13Ends() {
@@ -435,6 +459,12 @@ public final class EdgeWoodTest {
         dueCamps("promise 14: his, and there is no trip", none, "");
         none.tune(1, 0);
         dueCamps("promise 14: his, and a trip from the cabin alone", none, "0");
+        OnlyBatteries behind = Check.of("lake 10;cabin 13;");
+        behind.tune(0, 12);
+        behind.theft(0, 0, 1, 0, 20, 7);
+        dueCamps("promise 14: theirs alone", behind, "2 9 11 18");
+        behind.theft(0, 0, 1, 0, 20, 0);
+        dueCamps("promise 14: one of his behind one of theirs", behind, "11");
         OnlyBatteries never = Check.of("lake 10;cabin 13;home 0 0 59;");
         never.tune(0, 12);
         never.theft(0, 0, 1, 0, 20, 0);
