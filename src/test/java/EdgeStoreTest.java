@@ -28,6 +28,7 @@ public final class EdgeStoreTest {
         promise21AsManyAsThereAre();
         promise21Ties();
         promise21FirstAndLastNights();
+        promise21WhatWas();
         CHECK.end();
     }
 
@@ -479,5 +480,27 @@ public final class EdgeStoreTest {
         duePlace("both ends, all nights", both, 1, 60, 1, 0, 2000000);
         duePlace("both ends, all but the last", both, 1, 59, 1, 0, 2000000);
         duePlace("both ends, a night too few", both, 1, 58, 1, 0, 1000000);
+    }
+
+    /** What was found with other thefts, another bar, another year does not count. */
+    private static void promise21WhatWas() {
+        OnlyBatteries x = Check.of(Edge.cabins(2));
+        x.keep(0);
+        x.theft(1, 58, 59, 0, 1, 0);
+        duePlace("the last in which one could be", x, 1, 1, 2, 58, 1000000);
+        x.tune(4, 0);
+        duePlace("not his any more", x, 1, 60, 1, 0, 0);
+        duePlace("not his any more", x, 2, 2, 3, 0, 0);
+        x.tune(4, 5);
+        duePlace("his again", x, 1, 1, 2, 58, 1000000);
+        x.back(0);
+        duePlace("no theft any more", x, 1, 30, 1, 0, 0);
+        duePlace("no theft any more", x, 1, 1, 1, 0, 0);
+        x.theft(1, 58, 59, 0, 1, 0);
+        duePlace("one again", x, 1, 1, 2, 58, 1000000);
+        Check.type(x, "cabin 1;");
+        x.year();
+        duePlace("a new year", x, 3, 59, 1, 0, 0);
+        due("promise 20: watch in a new year", x.watch(255, 0, 59), 0);
     }
 }

@@ -28,6 +28,7 @@ public final class EdgeTextTest {
         promise4BlanksNeeded();
         promise4BlanksAnywhere();
         promise4SignsAtOnce();
+        promise4LettersOfWords();
         promise4Cells();
         promise4Days();
         promise4Homes();
@@ -320,6 +321,29 @@ public final class EdgeTextTest {
         }
         fault("a letter at once behind each letter of a word", "pathz 3;", 0);
         fault("a letter at once ahead of a word", "zpath 3;", 0);
+    }
+
+    /** Each word with one letter changed, left out, doubled: none of these is a word. */
+    private static void promise4LettersOfWords() {
+        for (String[] item : ITEMS) {
+            String word = item[0];
+            String ahead = "cabin 40;";
+            String behind = " " + String.join(" ", item).substring(word.length() + 1);
+            items("the word as it should be", ahead + word + behind, 2);
+            for (int i = 0; i < word.length(); i++) {
+                String first = ahead + word.substring(0, i);
+                String rest = word.substring(i + 1) + behind;
+                for (char c = 'a'; c <= 'z'; c++) {
+                    if (c != word.charAt(i)) {
+                        fault("letter " + i + " is another", first + c + rest, ahead.length());
+                    }
+                }
+                fault("letter " + i + " is left out", first + rest, ahead.length());
+                fault("letter " + i + " is doubled", first + word.charAt(i) + word.charAt(i) + rest, ahead.length());
+                // the letters ahead of a capital are a word that is none of these
+                fault("letter " + i + " is a capital", first + (char) (word.charAt(i) - 32) + rest, ahead.length());
+            }
+        }
     }
 
     // ---- numbers

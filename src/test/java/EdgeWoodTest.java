@@ -22,12 +22,14 @@ public final class EdgeWoodTest {
         promise12Lakes();
         promise12RowsEnds();
         promise12FarthestWays();
+        promise12BothWaysAtOnce();
         promise12NewYear();
         promise13Ends();
         promise13RoundedUp();
         promise13NoWay();
         promise14Ends();
         promise14Beside();
+        promise14EachSide();
         promise14Apart();
         promise14Long();
         promise14WhichThefts();
@@ -290,6 +292,15 @@ public final class EdgeWoodTest {
         return text + "cabin39;";
     }
 
+    /** Two ways round a lake that are as long, and meet in the cell from two sides. */
+    private static void promise12BothWaysAtOnce() {
+        due("promise 12: from left and right at once", Check.of("lake 9;lake 25;").walk(1, 17), 8);
+        due("promise 12: from above and below at once", Check.of("lake 9;lake 11;").walk(8, 10), 8);
+        due("promise 12: from above alone", Check.of("lake 9;lake 11;lake 17;lake 18;").walk(0, 10), 6);
+        due("promise 12: by paths, left and right", Check.of("lake 9;lake 25;path 17;").walk(1, 17), 7);
+        due("promise 12: through swamps, above and below", Check.of("lake 9;lake 11;swamp 10;").walk(8, 10), 9);
+    }
+
     /** What was walked in an old year does not count in a new one. */
     private static void promise12NewYear() {
         OnlyBatteries x = Check.of("lake 1;swamp 8;cabin 9;");
@@ -394,6 +405,22 @@ public final class EdgeWoodTest {
         dueCamps("promise 14: a swamp by itself is none", Check.of("swamp 0;"), "1 8");
         dueCamps("promise 14: a path beside water is one", Check.of("swamp 0;path 1;"), "1 8");
         dueCamps("promise 14: a path is no water", Check.of("path 20;"), "");
+    }
+
+    /** Water on every set of the four sides: one side is enough, more are no less. */
+    private static void promise14EachSide() {
+        int[] sides = {12, 28, 19, 21};
+        for (String water : new String[] {"lake ", "swamp "}) {
+            for (int set = 0; set < 16; set++) {
+                StringBuilder text = new StringBuilder();
+                for (int i = 0; i < 4; i++) {
+                    text.append((set >> i & 1) == 1 ? water + sides[i] + ";" : "");
+                }
+                due("promise 14: camp(20) of '" + text + "'", Check.of(text.toString()).camp(20), set == 0 ? 0 : 1);
+            }
+        }
+        due("promise 14: a lake and a swamp", Check.of("lake 19;swamp 21;").camp(20), 1);
+        due("promise 14: corners alone", Check.of("lake 11;swamp 13;lake 27;swamp 29;").camp(20), 0);
     }
 
     private static void promise14Apart() {
